@@ -647,9 +647,7 @@ public final class CryptRows {
             if (!vault.isOpen()) {
                 return vault.permissions;
             }
-            Row text = tools.text;
-            text.clear();
-            text.addSame(0, BLOCK);
+            Row text = textBehindZeros();
             text.addAll(vault.entryRow(4));
             tools.blocks.openChain(vault.secret, text);
             int told = 0;
@@ -665,14 +663,20 @@ public final class CryptRows {
                 return false;
             }
             sumSalted(vault.tried, entry, 40, asOwner, tools.sum);
-            Row text = tools.text;
-            text.clear();
-            text.addSame(0, BLOCK);
+            Row text = textBehindZeros();
             text.addAll(wrapped);
             tools.blocks.openChain(tools.sum, text);
             vault.secret.clear();
             vault.secret.addPart(text, BLOCK, 32);
             return true;
+        }
+
+        /** The text with nothing but a vector of 0, by which a single block is as if it were not chained. */
+        private Row textBehindZeros() {
+            Row text = tools.text;
+            text.clear();
+            text.addSame(0, BLOCK);
+            return text;
         }
 
         /** GREAT of a word, eight bytes of a row, and of an owner's word entry 1. */
@@ -688,9 +692,7 @@ public final class CryptRows {
 
         /** The key, the tape's first bytes, shut by the sum. */
         private void wrapKey(Row to) {
-            Row text = tools.text;
-            text.clear();
-            text.addSame(0, BLOCK);
+            Row text = textBehindZeros();
             text.addPart(vault.tapeLeft, 0, 32);
             tools.blocks.shutChain(tools.sum, text);
             to.clear();
@@ -700,9 +702,7 @@ public final class CryptRows {
         private void wrapPermissions(Row to) {
             tools.sum.clear();
             tools.sum.addPart(vault.tapeLeft, 0, 32);
-            Row text = tools.text;
-            text.clear();
-            text.addSame(0, BLOCK);
+            Row text = textBehindZeros();
             text.addNumber(vault.permissions, 4);
             text.addSame(255, 4);
             text.add(vault.plainMetadata ? 'F' : 'T');
