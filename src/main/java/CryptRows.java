@@ -61,13 +61,13 @@ public final class CryptRows {
     }
 
     public int tape(int v) throws UnsupportedOperationException {
-        if (!vault.tapeLeft.hasRoom(4)) {
+        if (!vault.tape.hasRoom(4)) {
             throw new UnsupportedOperationException("the tape is full");
         }
         for (int shift = 24; shift >= 0; shift -= 8) {
-            vault.tapeLeft.add(v >>> shift);
+            vault.tape.add(v >>> shift);
         }
-        return vault.tapeLeft.count();
+        return vault.tape.count();
     }
 
     public int metadata(boolean plain) {
@@ -77,7 +77,7 @@ public final class CryptRows {
     }
 
     public int make(int permissions) throws IllegalStateException {
-        if (vault.tapeLeft.count() < lock.tapeNeeded()) {
+        if (vault.tapeLeft() < lock.tapeNeeded()) {
             throw new IllegalStateException("the tape is too short");
         }
         vault.permissions = permissions;
@@ -200,7 +200,7 @@ public final class CryptRows {
             case 0:
                 return collected.count();
             case 1:
-                return vault.tapeLeft.count();
+                return vault.tapeLeft();
             case 2:
                 return answer.count();
             case 3:
@@ -228,14 +228,13 @@ public final class CryptRows {
     }
 
     private int shutBlocks() {
-        if (vault.tapeLeft.count() < BLOCK) {
+        if (vault.tapeLeft() < BLOCK) {
             return VECTOR_MISSING;
         }
         lock.findObjectKey(collectedFor, 0, true, tools.sum);
         Row text = tools.text;
         text.clear();
-        text.addPart(vault.tapeLeft, 0, BLOCK);
-        vault.tapeLeft.drop(BLOCK);
+        vault.giveTape(BLOCK, text);
         text.addAll(collected);
         int fill = BLOCK - (collected.count() & (BLOCK - 1));
         text.addSame(fill, fill);
@@ -386,7 +385,9 @@ public final class CryptRows {
         private final Row owner = new Row(WORD_LIMIT);
         private final Row tried = new Row(WORD_LIMIT);
         private final Row ident = new Row(ID_LIMIT);
-        private final Row tapeLeft = new Row(TAPE_LIMIT);
+        /** All bytes that were put behind the tape: those that it has given still count. */
+        private final Row tape = new Row(TAPE_LIMIT);
+        private int tapeGiven;
         /** The key, while something is open; else no bytes. */
         private final Row secret = new Row(32);
         private final Row[] entries;
@@ -420,6 +421,17 @@ public final class CryptRows {
                 return noEntry;
             }
             return entries[which];
+        }
+
+        int tapeLeft() {
+            return tape.count() - tapeGiven;
+        }
+
+        /** The next bytes of the tape, as far as it has them, behind a row. */
+        void giveTape(int bytes, Row to) {
+            int given = Math.min(bytes, tapeLeft());
+            to.addPart(tape, tapeGiven, given);
+            tapeGiven += given;
         }
 
         int keyBytes() {
@@ -606,6 +618,9 @@ public final class CryptRows {
     private static final class LateLock extends Lock {
         private static final int TAPE_NEEDED = 68;
 
+        /** What the entries are made of: the key, the salts of the user and the owner, and 4 more. */
+        private final Row chance = new Row(TAPE_NEEDED);
+
         LateLock() {
             super(5);
         }
@@ -619,17 +634,17 @@ public final class CryptRows {
         }
 
         void makeEntries() {
-            Row tape = vault.tapeLeft;
-            sumSalted(vault.user, tape, 32, false, vault.entryRow(1));
-            vault.entryRow(1).addPart(tape, 32, 16);
-            sumSalted(vault.user, tape, 40, false, tools.sum);
+            chance.clear();
+            vault.giveTape(TAPE_NEEDED, chance);
+            sumSalted(vault.user, chance, 32, false, vault.entryRow(1));
+            vault.entryRow(1).addPart(chance, 32, 16);
+            sumSalted(vault.user, chance, 40, false, tools.sum);
             wrapKey(vault.entryRow(3));
-            sumSalted(vault.owner, tape, 48, true, vault.entryRow(0));
-            vault.entryRow(0).addPart(tape, 48, 16);
-            sumSalted(vault.owner, tape, 56, true, tools.sum);
+            sumSalted(vault.owner, chance, 48, true, vault.entryRow(0));
+            vault.entryRow(0).addPart(chance, 48, 16);
+            sumSalted(vault.owner, chance, 56, true, tools.sum);
             wrapKey(vault.entryRow(2));
             wrapPermissions(vault.entryRow(4));
-            tape.drop(TAPE_NEEDED);
         }
 
         int tryWord() {
@@ -690,10 +705,10 @@ public final class CryptRows {
             tools.great.sum(text, to);
         }
 
-        /** The key, the tape's first bytes, shut by the sum. */
+        /** The key, shut by the sum. */
         private void wrapKey(Row to) {
             Row text = textBehindZeros();
-            text.addPart(vault.tapeLeft, 0, 32);
+            text.addPart(chance, 0, 32);
             tools.blocks.shutChain(tools.sum, text);
             to.clear();
             to.addPart(text, BLOCK, 32);
@@ -701,7 +716,7 @@ public final class CryptRows {
 
         private void wrapPermissions(Row to) {
             tools.sum.clear();
-            tools.sum.addPart(vault.tapeLeft, 0, 32);
+            tools.sum.addPart(chance, 0, 32);
             Row text = textBehindZeros();
             text.addNumber(vault.permissions, 4);
             text.addSame(255, 4);
@@ -709,7 +724,7 @@ public final class CryptRows {
             text.add('a');
             text.add('d');
             text.add('b');
-            text.addPart(vault.tapeLeft, 64, 4);
+            text.addPart(chance, 64, 4);
             tools.blocks.shutChain(tools.sum, text);
             to.clear();
             to.addPart(text, BLOCK, BLOCK);

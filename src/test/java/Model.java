@@ -17,7 +17,8 @@ final class Model {
     byte[] owner = {};
     byte[] tried = {};
     byte[] ident = {};
-    byte[] tapeLeft = {};
+    byte[] tape = {};
+    int tapeGiven;
     byte[] collected = {};
     byte[] outBytes = {};
     byte[] secret;
@@ -56,11 +57,11 @@ final class Model {
     }
 
     int tape(int v) {
-        if (tapeLeft.length > 396) {
+        if (tape.length > 396) {
             throw new UnsupportedOperationException();
         }
-        tapeLeft = join(tapeLeft, bytes(v >> 24, v >> 16, v >> 8, v));
-        return tapeLeft.length;
+        tape = join(tape, bytes(v >> 24, v >> 16, v >> 8, v));
+        return tape.length;
     }
 
     int metadata(boolean now) {
@@ -193,7 +194,7 @@ final class Model {
             byte[] told = aes(Cipher.DECRYPT_MODE, secret, new byte[16], entries[4]);
             return told[0] & 255 | (told[1] & 255) << 8 | (told[2] & 255) << 16 | told[3] << 24;
         }
-        return new int[] {collected.length, tapeLeft.length, outBytes.length, permissions}[what];
+        return new int[] {collected.length, tapeLeft(), outBytes.length, permissions}[what];
     }
 
     private void close() {
@@ -201,10 +202,14 @@ final class Model {
         collected = new byte[0];
     }
 
-    private byte[] takeTape(int count) {
-        byte[] taken = Arrays.copyOf(tapeLeft, count);
-        tapeLeft = Arrays.copyOfRange(tapeLeft, count, tapeLeft.length);
-        return taken;
+    int tapeLeft() {
+        return tape.length - tapeGiven;
+    }
+
+    private byte[] nextOfTape(int count) {
+        byte[] next = part(tape, tapeGiven, count);
+        tapeGiven += count;
+        return next;
     }
 
     private void makeEarly(int granted) {
@@ -272,15 +277,15 @@ final class Model {
     }
 
     private void makeLate(int granted) {
-        if (tapeLeft.length < 68) {
+        if (tapeLeft() < 68) {
             throw new IllegalStateException();
         }
-        byte[] key = takeTape(32);
-        byte[] userCheck = takeTape(8);
-        byte[] userSalt = takeTape(8);
-        byte[] ownerCheck = takeTape(8);
-        byte[] ownerSalt = takeTape(8);
-        byte[] rest = takeTape(4);
+        byte[] key = nextOfTape(32);
+        byte[] userCheck = nextOfTape(8);
+        byte[] userSalt = nextOfTape(8);
+        byte[] ownerCheck = nextOfTape(8);
+        byte[] ownerSalt = nextOfTape(8);
+        byte[] rest = nextOfTape(4);
         byte[] one = join(join(sha256(join(user, userCheck)), userCheck), userSalt);
         byte[] three = aes(Cipher.ENCRYPT_MODE, sha256(join(user, userSalt)), new byte[16], key);
         byte[] zero = join(join(sha256(join(join(owner, ownerCheck), one)), ownerCheck), ownerSalt);
@@ -317,10 +322,10 @@ final class Model {
     }
 
     private int endForth(byte[] all) {
-        if (tapeLeft.length < 16) {
+        if (tapeLeft() < 16) {
             return -2;
         }
-        byte[] vector = takeTape(16);
+        byte[] vector = nextOfTape(16);
         int fill = 16 - all.length % 16;
         byte[] filled = Arrays.copyOf(all, all.length + fill);
         Arrays.fill(filled, all.length, filled.length, (byte) fill);

@@ -121,7 +121,7 @@ final class Pair {
 
     void tapes(int calls) {
         for (int k = 0; k < calls; k++) {
-            tape(0x9e3779b9 * (model.tapeLeft.length + k + 1));
+            tape(0x9e3779b9 * (model.tape.length + k + 1));
         }
     }
 

@@ -62,6 +62,8 @@ public final class PromisesTest {
         word();
         id();
         tape();
+        tapeBehindMake();
+        tapeBehindEnd();
         metadata();
         make();
         makeLate();
@@ -168,17 +170,74 @@ public final class PromisesTest {
         due(4, "left", x.told(1), 332);
         due(4, "the highest first", x.entry(1, 32), 9);
         due(4, "the highest first", x.entry(1, 35), 36);
-        due(4, "how many it has", x.tape(0xfffefdfc), 336);
+        due(4, "given ones count for the limit", x.tape(0xfffefdfc), UNSUPPORTED);
         due(4, "the word", x.open(-1), 1);
         due(4, "the key is the tape's", x.key(0, 0), 32);
         due(4, "the first one first", x.out(0), 1);
         due(4, "the first one first", x.out(3), 4);
         due(4, "the first one first", x.out(4), 2);
-        for (int n = 85; n <= 100; n++) {
-            due(4, "how many", x.tape(n), 4 * n);
+        for (int n = 4; n >= 1; n--) {
+            due(4, "the next 68", x.make(n), 5);
+            due(4, "left", x.told(1), 68 * n - 8);
+            x.open(-1);
+            x.key(0, 0);
+            x.seeAll();
         }
-        due(4, "more than 400", x.tape(1), UNSUPPORTED);
+        due(4, "60 bytes of 68 that are left", x.make(1), STATE);
+        due(4, "400 that it has", x.tape(1), UNSUPPORTED);
         ended(x);
+    }
+
+    private static void tapeBehindMake() {
+        for (int revision = 2; revision <= 5; revision++) {
+            int each = revision == 5 ? 68 : 0;
+            Pair x = new Pair(revision);
+            x.tapes(17);
+            x.make(0);
+            due(4, "given ones count", x.tape(0x01020304), 72);
+            due(4, "left", x.told(1), 72 - each);
+            for (int n = 19; n <= 34; n++) {
+                due(4, "given ones count", x.tape(n), 4 * n);
+            }
+            due(4, "the next 68", x.make(0), revision == 5 ? 5 : 2);
+            due(4, "left", x.told(1), 136 - 2 * each);
+            x.open(-1);
+            x.key(0, 0);
+            x.seeAll();
+            due(4, "the next ones are the key", x.out(0), x.model().outBytes[0]);
+            for (int n = 35; n <= 100; n++) {
+                due(4, "given ones count", x.tape(n), 4 * n);
+            }
+            due(4, "given ones count for the limit", x.tape(0), UNSUPPORTED);
+            due(4, "a throw changes nothing", x.told(1), 400 - 2 * each);
+            ended(x);
+        }
+    }
+
+    private static void tapeBehindEnd() {
+        for (int revision = 4; revision <= 5; revision++) {
+            Pair x = new Pair(revision);
+            x.tapes(25);
+            x.make(0);
+            x.open(-1);
+            int left = Integer.parseInt(x.told(1));
+            for (int n = 1; n <= 2; n++) {
+                x.apply(n, false, 65);
+                due(4, "a vector of the tape", x.end(), 32);
+                due(4, "left", x.told(1), left - 16 * n);
+                x.seeAll();
+            }
+            due(4, "given ones count", x.tape(1), 104);
+            due(4, "left", x.told(1), left - 28);
+            for (int n = 27; n <= 100; n++) {
+                due(4, "given ones count", x.tape(n), 4 * n);
+            }
+            x.apply(3, false, 65);
+            due(4, "a vector of the tape", x.end(), 32);
+            due(4, "given ones count for the limit", x.tape(1), UNSUPPORTED);
+            due(4, "left", x.told(1), left + 300 - 48);
+            ended(x);
+        }
     }
 
     private static void metadata() {
@@ -549,7 +608,7 @@ public final class PromisesTest {
         for (int revision = 4; revision <= 5; revision++) {
             for (int length : new int[] {1, 15, 16, 17, 31, 32}) {
                 Pair x = opened(revision);
-                int tape = x.model().tapeLeft.length;
+                int tape = x.model().tapeLeft();
                 x.applyAll(length, false, same(length, length));
                 due(13, "vector and blocks", x.end(), 16 + length + 16 - length % 16);
                 due(13, "the vector of the tape", x.told(1), tape - 16);
@@ -575,6 +634,8 @@ public final class PromisesTest {
             x.apply(1, false, 1);
             due(13, "16 bytes of tape", x.end(), 32);
             due(13, "none left", x.told(1), 0);
+            x.apply(1, false, 1);
+            due(13, "given ones are not given again", x.end(), -2);
             ended(x);
         }
     }
