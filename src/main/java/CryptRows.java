@@ -1,6 +1,7 @@
 /**
  * Rows of bytes that are shut by words: entries made of a user's and an owner's word, opened by
- * either, keys for each object, a cipher of bytes and one of blocks, in four revisions.
+ * either (of revisions 2 to 4 an owner's word without bytes stands for the user's), keys for each
+ * object, a cipher of bytes and one of blocks, in four revisions.
  */
 public final class CryptRows {
     private static final int WORD_LIMIT = 127;
@@ -508,10 +509,7 @@ public final class CryptRows {
             if (opensPadded()) {
                 return 1;
             }
-            // An owner's word that is the fill itself would be padded like one without bytes.
-            if (vault.tried.count() == 0) {
-                return 0;
-            }
+            // Of it alone: a tried word without bytes is the fill, and no user's word stands in for it.
             findOwnersKey(vault.tried);
             padded.copy(vault.entryRow(0));
             openSteps(padded);

@@ -224,9 +224,6 @@ final class Model {
             secret = asUser;
             return 1;
         }
-        if (tried.length == 0) {
-            return 0;
-        }
         byte[] user = entries[0];
         byte[] ownersKey = ownersKey(tried);
         for (int i = revision == 2 ? 0 : 19; i >= 0; i--) {

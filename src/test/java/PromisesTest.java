@@ -73,6 +73,7 @@ public final class PromisesTest {
         openBytes();
         openEarly();
         openEmptyWords();
+        openEmptyWordAsOwners();
         openLate();
         openKeepsAndLoses();
         key();
@@ -444,7 +445,7 @@ public final class PromisesTest {
             x.words(true, Model.FILL);
             x.make(1);
             due(9, "the fill as an owner's word", x.tryWord(Model.FILL), 2);
-            due(9, "no bytes, padded like the fill", x.tryWord(text("")), 0);
+            due(9, "no bytes, padded like the fill", x.tryWord(text("")), revision == 5 ? 0 : 2);
             ended(x);
             x = new Pair(revision);
             x.tapes(100);
@@ -455,6 +456,45 @@ public final class PromisesTest {
             due(9, "the owner", x.tryWord(text("o")), 2);
             ended(x);
         }
+    }
+
+    /** A tried word without bytes is tried by its own owner's key, the one of the fill. */
+    private static void openEmptyWordAsOwners() {
+        byte[] longer = Model.join(Model.FILL, text("more"));
+        byte[] shorter = java.util.Arrays.copyOf(Model.FILL, 31);
+        byte[] other = Model.FILL.clone();
+        other[31]++;
+        for (int revision = 2; revision <= 4; revision++) {
+            dueOfEmptyWord(revision, text("u"), Model.FILL, 2);
+            dueOfEmptyWord(revision, Model.bytes(0), longer, 2);
+            dueOfEmptyWord(revision, text("u"), shorter, 0);
+            dueOfEmptyWord(revision, text("u"), other, 0);
+            dueOfEmptyWord(revision, text("u"), text(""), 0);
+            dueOfEmptyWord(revision, text(""), Model.FILL, 1);
+            dueOfEmptyWord(revision, Model.FILL, text(""), 1);
+            dueOfEmptyWord(revision, text(""), text(""), 1);
+        }
+        dueOfEmptyWord(5, text("u"), Model.FILL, 0);
+        dueOfEmptyWord(5, text("u"), text(""), 2);
+    }
+
+    private static void dueOfEmptyWord(int revision, byte[] user, byte[] owner, int want) {
+        Pair x = new Pair(revision);
+        x.tapes(34);
+        x.words(false, user);
+        x.words(true, owner);
+        x.make(-3);
+        due(9, "a word without bytes", x.open(-1), want);
+        int keyBytes = revision == 2 ? 10 : revision == 5 ? 32 : 16;
+        due(9, "a key where it opens alone", x.key(1, 1), want == 0 ? STATE : keyBytes);
+        x.seeAll();
+        x.id(1);
+        due(9, "by the id as it is then", x.open(-1), revision == 5 ? want : 0);
+        x.make(-4);
+        due(9, "made by that id", x.open(-1), want);
+        x.alter(0, 0, ~Integer.parseInt(x.entry(0, 0)));
+        due(9, "entry 0 is another one", x.open(-1), revision == 5 && want == 1 ? 1 : 0);
+        ended(x);
     }
 
     private static void openLate() {

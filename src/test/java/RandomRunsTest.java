@@ -38,7 +38,7 @@ public final class RandomRunsTest {
 
     private void prepare() {
         pair.words(false, someBytes(random.nextInt(6) == 0 ? 40 : random.nextInt(6)));
-        pair.words(true, someBytes(random.nextInt(3) == 0 ? 0 : random.nextInt(6)));
+        pair.words(true, random.nextInt(6) == 0 ? Model.FILL : someBytes(random.nextInt(3) == 0 ? 0 : random.nextInt(6)));
         for (int k = random.nextInt(17); k > 0; k--) {
             pair.id(random.nextInt());
         }
