@@ -3,20 +3,31 @@ import java.util.List;
 
 /** The class and the model side by side: every call goes to both, and both must answer alike. */
 final class Pair {
-    /** What a call answers, or "throws" and the exception's name. */
-    interface Call {
-        long on();
+    /** The document promises nothing about an object after so many calls. */
+    static final int CALLS = 512;
+
+    /** A call of the class, to be made once more on a twin. */
+    private interface RealCall {
+        long on(CryptRows x);
     }
 
+    private interface ModelCall {
+        long on(Model x);
+    }
+
+    private final int revision;
     private final CryptRows real;
     private final Model model;
-    private final List<String> calls = new ArrayList<>();
+    private final List<String> names = new ArrayList<>();
+    private final List<RealCall> calls = new ArrayList<>();
+    private CryptRows twin;
+    private int twinCalls;
     int wrong;
 
-    Pair(int revision) {
-        real = new CryptRows(revision);
-        model = new Model(revision);
-        calls.add("new CryptRows(" + revision + ")");
+    Pair(int asked) {
+        revision = asked;
+        real = new CryptRows(asked);
+        model = new Model(asked);
     }
 
     Model model() {
@@ -24,84 +35,90 @@ final class Pair {
     }
 
     int count() {
-        return calls.size() - 1;
+        return calls.size();
     }
 
     String word(int c, boolean owner) {
-        return both("word(" + c + ", " + owner + ")", () -> real.word(c, owner), () -> model.word(c, owner));
+        return both("word(" + c + ", " + owner + ")", x -> x.word(c, owner), x -> x.word(c, owner));
     }
 
     String id(int b) {
-        return both("id(" + b + ")", () -> {
-            real.id((byte) b);
+        return both("id(" + b + ")", x -> {
+            x.id((byte) b);
             return 0;
-        }, () -> model.id((byte) b));
+        }, x -> x.id((byte) b));
     }
 
     String tape(int v) {
-        return both("tape(" + v + ")", () -> real.tape(v), () -> model.tape(v));
+        return both("tape(" + v + ")", x -> x.tape(v), x -> x.tape(v));
     }
 
     String metadata(boolean plain) {
-        return both("metadata(" + plain + ")", () -> real.metadata(plain), () -> model.metadata(plain));
+        return both("metadata(" + plain + ")", x -> x.metadata(plain), x -> x.metadata(plain));
     }
 
     String make(int permissions) {
-        return both("make(" + permissions + ")", () -> real.make(permissions), () -> model.make(permissions));
+        return both("make(" + permissions + ")", x -> x.make(permissions), x -> x.make(permissions));
     }
 
     String entry(int which, int i) {
-        return both("entry(" + which + ", " + i + ")", () -> real.entry(which, i), () -> model.entry(which, i));
+        return both("entry(" + which + ", " + i + ")", x -> x.entry(which, i), x -> x.entry(which, i));
     }
 
     String alter(int which, int i, int b) {
-        return both("alter(" + which + ", " + i + ", " + b + ")", () -> {
-            real.alter(which, i, (byte) b);
+        return both("alter(" + which + ", " + i + ", " + b + ")", x -> {
+            x.alter(which, i, (byte) b);
             return 0;
-        }, () -> model.alter(which, i, (byte) b));
+        }, x -> x.alter(which, i, (byte) b));
     }
 
     String open(int c) {
-        return both("open(" + c + ")", () -> real.open(c), () -> model.open(c));
+        return both("open(" + c + ")", x -> x.open(c), x -> x.open(c));
     }
 
     String key(int object, int generation) {
         return both("key(" + object + ", " + generation + ")",
-            () -> real.key(object, generation), () -> model.key(object, generation));
+            x -> x.key(object, generation), x -> x.key(object, generation));
     }
 
     String filter(int kind) {
-        return both("filter(" + kind + ")", () -> real.filter(kind), () -> model.filter(kind));
+        return both("filter(" + kind + ")", x -> x.filter(kind), x -> x.filter(kind));
     }
 
     String apply(int object, boolean back, int b) {
         return both("apply(" + object + ", " + back + ", " + b + ")",
-            () -> real.apply(object, back, (byte) b), () -> model.apply(object, back, (byte) b));
+            x -> x.apply(object, back, (byte) b), x -> x.apply(object, back, (byte) b));
     }
 
     String end() {
-        return both("end()", real::end, model::end);
+        return both("end()", x -> x.end(), x -> x.end());
     }
 
     String out(int i) {
-        return both("out(" + i + ")", () -> real.out(i), () -> model.out(i));
+        return both("out(" + i + ")", x -> x.out(i), x -> x.out(i));
     }
 
     String digest(int kind) {
-        return both("digest(" + kind + ")", () -> real.digest(kind), () -> model.digest(kind));
+        return both("digest(" + kind + ")", x -> x.digest(kind), x -> x.digest(kind));
     }
 
     String weak() {
-        return both("weak()", () -> real.weak() ? 1 : 0, model::weak);
+        return both("weak()", x -> x.weak() ? 1 : 0, x -> x.weak());
     }
 
     String told(int what) {
-        return both("told(" + what + ")", () -> real.told(what), () -> model.told(what));
+        return both("told(" + what + ")", x -> x.told(what), x -> x.told(what));
     }
 
     void words(boolean owner, byte[] bytes) {
         for (byte b : bytes) {
             word(b, owner);
+        }
+    }
+
+    void ids(int count) {
+        for (int k = 0; k < count; k++) {
+            id(11 * k + 5);
         }
     }
 
@@ -125,41 +142,94 @@ final class Pair {
         }
     }
 
-    /** Looks at all that can be seen, which changes nothing. */
+    /** Looks at all that can be seen, on twins: so it takes no call of the object away. */
     void seeAll() {
-        List<String> before = new ArrayList<>(calls);
+        twin = null;
         for (int what = -1; what <= 4; what++) {
-            told(what);
+            int asked = what;
+            look("told(" + asked + ")", x -> x.told(asked), x -> x.told(asked));
         }
-        for (int i = -1; i <= model.outBytes.length; i++) {
-            out(i);
-        }
+        look("weak()", x -> x.weak() ? 1 : 0, x -> x.weak());
+        seeOut();
         for (int which = -1; which <= 5; which++) {
-            for (int i = -2; i <= 48; i++) {
-                entry(which, i);
-            }
+            seeEntry(which);
         }
-        weak();
-        calls.clear();
-        calls.addAll(before);
     }
 
-    private String both(String name, Call onReal, Call onModel) {
-        calls.add(name);
-        String got = answer(onReal);
-        String due = answer(onModel);
+    void seeOut() {
+        for (int i = -1; i <= model.outBytes.length; i++) {
+            int asked = i;
+            look("out(" + asked + ")", x -> x.out(asked), x -> x.out(asked));
+        }
+    }
+
+    private void seeEntry(int which) {
+        boolean made = model.entries != null && which >= 0 && which < model.entries.length;
+        int end = made ? model.entries[which].length : 0;
+        for (int i = -2; i <= end; i++) {
+            int asked = i;
+            look("entry(" + which + ", " + asked + ")", x -> x.entry(which, asked), x -> x.entry(which, asked));
+        }
+    }
+
+    private String both(String name, RealCall onReal, ModelCall onModel) {
+        if (count() == CALLS) {
+            throw new AssertionError("a test may not use an object for more than " + CALLS + " calls");
+        }
+        names.add(name);
+        calls.add(onReal);
+        twin = null;
+        return compared(answer(onReal, real), onModel, "");
+    }
+
+    /** Where the calls of a run are as many as an object may have, nothing is left to look with. */
+    private void look(String name, RealCall onReal, ModelCall onModel) {
+        if (count() == CALLS) {
+            return;
+        }
+        if (twin == null || twinCalls == CALLS) {
+            twin = madeAgain();
+            twinCalls = count();
+        }
+        twinCalls++;
+        compared(answer(onReal, twin), onModel, "; " + name);
+    }
+
+    private CryptRows madeAgain() {
+        CryptRows again = new CryptRows(revision);
+        for (RealCall call : calls) {
+            answer(call, again);
+        }
+        return again;
+    }
+
+    private String compared(String got, ModelCall onModel, String last) {
+        String due = answer(onModel, model);
         if (!got.equals(due)) {
             wrong++;
-            System.out.println(String.join("; ", calls) + " answered " + got + ", due is " + due);
+            System.out.println("new CryptRows(" + revision + "); " + String.join("; ", names) + last
+                + " answered " + got + ", due is " + due);
         }
         return got;
     }
 
-    private static String answer(Call call) {
+    private static String answer(RealCall call, CryptRows x) {
         try {
-            return Long.toString(call.on());
+            return Long.toString(call.on(x));
         } catch (RuntimeException e) {
-            return "throws " + e.getClass().getSimpleName();
+            return thrown(e);
         }
+    }
+
+    private static String answer(ModelCall call, Model x) {
+        try {
+            return Long.toString(call.on(x));
+        } catch (RuntimeException e) {
+            return thrown(e);
+        }
+    }
+
+    private static String thrown(RuntimeException e) {
+        return "throws " + e.getClass().getSimpleName();
     }
 }

@@ -1,60 +1,7 @@
 /** Each promise by its own words: ordinary inputs, the edges that it names, and wrong inputs. */
-public final class PromisesTest {
-    private static final String ARGUMENT = "throws IllegalArgumentException";
-    private static final String STATE = "throws IllegalStateException";
-    private static final String INDEX = "throws IndexOutOfBoundsException";
-    private static final String ARRAY_INDEX = "throws ArrayIndexOutOfBoundsException";
-    private static final String UNSUPPORTED = "throws UnsupportedOperationException";
-
-    private static int wrong;
-
+public final class PromisesTest extends Scenes {
     private static void due(int promise, String what, String got, Object want) {
-        if (!got.equals(want.toString())) {
-            wrong++;
-            System.out.println("promise " + promise + ": " + what + ": " + got + ", due is " + want);
-        }
-    }
-
-    private static byte[] text(String s) {
-        byte[] bytes = new byte[s.length()];
-        for (int i = 0; i < bytes.length; i++) {
-            bytes[i] = (byte) s.charAt(i);
-        }
-        return bytes;
-    }
-
-    private static byte[] same(int b, int count) {
-        byte[] bytes = new byte[count];
-        java.util.Arrays.fill(bytes, (byte) b);
-        return bytes;
-    }
-
-    /** An object with the words "user" and "owner", an id and a full tape. */
-    private static Pair ready(int revision) {
-        Pair x = new Pair(revision);
-        x.words(false, text("user"));
-        x.words(true, text("owner"));
-        x.id(7);
-        x.id(-7);
-        x.tapes(100);
-        return x;
-    }
-
-    private static Pair made(int revision) {
-        Pair x = ready(revision);
-        x.make(-1340);
-        return x;
-    }
-
-    private static Pair opened(int revision) {
-        Pair x = made(revision);
-        due(9, "opened by the user's word", x.tryWord(text("user")), 1);
-        return x;
-    }
-
-    private static void ended(Pair x) {
-        x.seeAll();
-        wrong += x.wrong;
+        compare("promise " + promise, what, got, want);
     }
 
     public static void main(String[] args) {
@@ -92,7 +39,10 @@ public final class PromisesTest {
     }
 
     private static void newObject() {
-        int[][] asked = {{Integer.MIN_VALUE, 2, 1}, {0, 2, 1}, {2, 2, 1}, {3, 2, 1}, {4, 2, 2}, {5, 5, 2}, {6, 5, 2}, {Integer.MAX_VALUE, 5, 2}};
+        int[][] asked = {
+            {Integer.MIN_VALUE, 2, 1}, {0, 2, 1}, {2, 2, 1}, {3, 2, 1},
+            {4, 2, 2}, {5, 5, 2}, {6, 5, 2}, {Integer.MAX_VALUE, 5, 2}
+        };
         for (int[] row : asked) {
             Pair x = new Pair(row[0]);
             due(1, "nothing made", x.entry(0, -1), INDEX);
@@ -123,22 +73,25 @@ public final class PromisesTest {
             x.make(1);
             due(2, "the word opens", x.tryWord(Model.bytes(0x75, 255)), 1);
             due(2, "the owner's word opens", x.tryWord(Model.bytes(0)), 2);
-            for (int n = 3; n <= 127; n++) {
-                due(2, "how many", x.word(n, false), n);
-            }
-            due(2, "127 bytes", x.word(1, false), UNSUPPORTED);
-            due(2, "the other has room", x.word(1, true), 2);
-            for (int n = 3; n <= 127; n++) {
-                x.word(n, true);
-            }
-            due(2, "127 bytes", x.word(0, true), UNSUPPORTED);
-            x.make(1);
-            due(2, "127 bytes open", x.tryWord(x.model().user), 1);
-            due(2, "127 bytes open", x.tryWord(x.model().owner), 2);
-            byte[] first = java.util.Arrays.copyOf(x.model().user, 32);
-            due(2, "32 bytes of 127", x.tryWord(first), revision == 5 ? 0 : 1);
             ended(x);
+            fullWord(revision, false);
+            fullWord(revision, true);
         }
+    }
+
+    private static void fullWord(int revision, boolean owner) {
+        Pair x = new Pair(revision);
+        x.tapes(34);
+        for (int n = 1; n <= 127; n++) {
+            due(2, "how many", x.word(n, owner), n);
+        }
+        due(2, "127 bytes", x.word(1, owner), UNSUPPORTED);
+        due(2, "the other has room", x.word(1, !owner), 1);
+        x.make(1);
+        byte[] word = owner ? x.model().owner : x.model().user;
+        due(2, "127 bytes open", x.tryWord(word), owner ? 2 : 1);
+        due(2, "126 bytes of 127", x.tryWord(java.util.Arrays.copyOf(word, 126)), revision == 5 ? 0 : owner ? 2 : 1);
+        ended(x);
     }
 
     private static void id() {
@@ -602,7 +555,10 @@ public final class PromisesTest {
 
     private static void applyLimits() {
         for (int revision = 2; revision <= 5; revision++) {
-            Pair x = opened(revision);
+            Pair x = new Pair(revision);
+            x.tapes(21);
+            x.make(-1340);
+            x.open(-1);
             for (int n = 1; n <= 400; n++) {
                 due(12, "how many", x.apply(-5, false, n), n);
             }
