@@ -2,7 +2,7 @@
  * Rows of bytes that are shut by words: entries made of a user's and an owner's word, opened by
  * either (of revisions 2 to 4 an owner's word without bytes stands for the user's, and opens
  * nothing as an owner's), keys for each object, a cipher of bytes and one of blocks, in four
- * revisions.
+ * revisions; hashes worked out here.
  */
 public final class CryptRows {
     private static final int WORD_LIMIT = 127;

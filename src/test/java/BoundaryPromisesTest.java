@@ -33,6 +33,7 @@ public final class BoundaryPromisesTest extends Sentences {
         noSuchByteOfAnEntry();
         noEntryBeforeMake();
         alteredByte();
+        alteredToAnothers();
         alterShuts();
         noSuchByteToAlter();
         nothingToAlterBeforeMake();
@@ -532,6 +533,37 @@ public final class BoundaryPromisesTest extends Sentences {
                 due("the one beside it", x.entry(which, 1), next);
             }
             ended(x);
+        }
+    }
+
+    /** What opens is what stands in the entries, whatever words the object was given. */
+    private static void alteredToAnothers() {
+        says("Byte i of an entry becomes another one");
+        for (int revision : ALL) {
+            Pair x = made(revision);
+            Pair y = new Pair(revision);
+            y.words(false, text("other"));
+            y.words(true, text("keeper"));
+            y.id(7);
+            y.id(-7);
+            y.tapes(17);
+            y.make(-1340);
+            byte[][] entries = y.model().entries;
+            for (int which = 0; which < entries.length; which++) {
+                for (int i = 0; i < entries[which].length; i++) {
+                    x.alter(which, i, entries[which][i]);
+                }
+            }
+            due("the other user's", x.tryWord(text("other")), 1);
+            String key = keyOf(x, 1, 0);
+            due("the other owner's", x.tryWord(text("keeper")), 2);
+            due("the same key", keyOf(x, 1, 0), key);
+            due("the user's as made", x.tryWord(text("user")), 0);
+            due("the owner's as made", x.tryWord(text("owner")), 0);
+            y.tryWord(text("other"));
+            due("the other object's key", keyOf(y, 1, 0), key);
+            ended(x);
+            ended(y);
         }
     }
 
